@@ -274,6 +274,14 @@ public final class ClothTest {
         Check.yes("column 1", loom.isRaised(1, 1));
         Check.no("column 0", loom.isRaised(1, 0));
         Check.no("column 14", loom.isRaised(1, 14));
+        loom.addWick(6, 32768 | 16, 1);
+        loom.light(1);
+        loom.weave(1);
+        Check.same("mask of another row", 18, loom.rowMask(2));
+        Check.no("column 15 of another row", loom.isRaised(2, 15));
+        Check.yes("column 4 of another row", loom.isRaised(2, 4));
+        Check.no("column 4 of the first row", loom.isRaised(0, 4));
+        loom.undo();
         Check.fails("mask -1", Check.INDEX, () -> loom.rowMask(-1));
         Check.fails("mask 2", Check.INDEX, () -> loom.rowMask(2));
         Check.fails("colour -1", Check.INDEX, () -> loom.rowColour(-1));

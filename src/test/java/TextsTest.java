@@ -242,6 +242,13 @@ public final class TextsTest {
         Check.same("the example", "3:xx..Xo....xxxx..", Check.line(loom, 18));
         Check.same("the other row", 18, loom.writeRow(0));
         Check.same("without knots", "3:xx..x.....xxxx..", Check.line(loom, 18));
+        loom.addWick(7, 32768 | 1, 20);
+        loom.light(1);
+        loom.weave(1);
+        loom.writeRow(2);
+        Check.same("a third row", "7:.x..x.....xxxx.x", Check.line(loom, 18));
+        loom.undo();
+        loom.writeRow(0);
         Check.fails("row -1", Check.INDEX, () -> loom.writeRow(-1));
         Check.fails("row 2", Check.INDEX, () -> loom.writeRow(2));
         Check.same("the line stays", "3:xx..x.....xxxx..", Check.line(loom, 18));

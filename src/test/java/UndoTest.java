@@ -7,6 +7,7 @@ public final class UndoTest {
         textsAreOneChange();
         snapshots();
         snapshotsAndUndo();
+        everyPartIsRestored();
         Check.end();
     }
 
@@ -158,6 +159,35 @@ public final class UndoTest {
         Check.same("save again", 8, loom.saveSnapshot());
         loom.weave(1);
         Check.same("the new one", 8, loom.restoreSnapshot());
+    }
+
+    private static void everyPartIsRestored() {
+        CandleLoom loom = new CandleLoom();
+        loom.addWick(5, 32769, 40);
+        loom.light(0);
+        loom.weave(9);
+        loom.knot(1, 2);
+        loom.saveSnapshot();
+        while (loom.undoCount() > 0) {
+            loom.undo();
+        }
+        loom.addWick(2, 6, 9);
+        loom.addWick(3, 8, 7);
+        loom.light(1);
+        loom.weave(2);
+        loom.restoreSnapshot();
+        Check.same("wicks", 1, loom.wickCount());
+        Check.same("wax", 31, loom.wax(0));
+        Check.same("mask of a row", 32769, loom.rowMask(0));
+        Check.same("colour of a row", 5, loom.rowColour(1));
+        Check.yes("knot", loom.isKnotted(1, 2));
+        Check.same("left heat", 4, loom.heat('l'));
+        Check.same("right heat", 4, loom.heat('r'));
+        loom.mend('l');
+        loom.mend('r');
+        loom.weave(1);
+        Check.same("mask of the wick", 32769, loom.rowMask(9));
+        Check.same("colour of the wick", 5, loom.rowColour(9));
     }
 
     private static void snapshotsAndUndo() {

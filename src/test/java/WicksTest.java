@@ -175,5 +175,8 @@ public final class WicksTest {
         Check.same("more rows than the cloth can have", 99, loom.rowsUntilDark());
         Check.same("more rows than the cloth can have, by wax", 99, loom.rowsUntilDarkByWax());
         Check.same("nothing is woven by asking", 5, loom.rowCount());
+        CandleLoom first = Check.lit(0, 2, 8, 0, 2, 3);
+        Check.same("the first wick lasts longest", 8, first.rowsUntilDark());
+        Check.same("the first wick lasts longest, by wax", 8, first.rowsUntilDarkByWax());
     }
 }
