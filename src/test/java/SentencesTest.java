@@ -1,0 +1,15 @@
+/** Each sentence of the document has a test of its own, and holds. */
+public final class SentencesTest {
+    public static void main(String[] args) {
+        TermsSentences.all();
+        GrammarSentences.all();
+        ExceptionsSentences.all();
+        WicksSentences.all();
+        ClothSentences.all();
+        PatternsSentences.all();
+        TextsSentences.all();
+        UndoSentences.all();
+        Sentences.requireAllQuoted();
+        Check.end();
+    }
+}
