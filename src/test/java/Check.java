@@ -9,9 +9,26 @@ final class Check {
     static final Class<?> STATE = IllegalStateException.class;
     static final Class<?> NO_ROWS = ArithmeticException.class;
 
+    private static final int LONGEST_TEST_MILLIS = 300_000;
+
     private static int wrong;
 
     private Check() {
+    }
+
+    /** Ends a test in which a call does not end. */
+    static void watch() {
+        Thread watch = new Thread(() -> {
+            try {
+                Thread.sleep(LONGEST_TEST_MILLIS);
+            } catch (InterruptedException e) {
+                return;
+            }
+            System.out.println("the test does not end");
+            Runtime.getRuntime().halt(1);
+        });
+        watch.setDaemon(true);
+        watch.start();
     }
 
     interface Call {

@@ -657,6 +657,9 @@ final class ClothSentences extends Sentences {
         loom.untie(1, 15);
         refuses(NONE, () -> call.on(loom, 0));
         refuses(NONE, () -> call.on(loom, 1));
+        CandleLoom full = woven(40);
+        refuses(NONE, () -> call.on(full, 0));
+        refuses(NONE, () -> call.on(full, 39));
     }
 
     private static void nextKnotColumn() {

@@ -1,6 +1,7 @@
 /** Promises 14 to 29. */
 public final class ClothTest {
     public static void main(String[] args) {
+        Check.watch();
         weave();
         weaveLimits();
         rowColours();

@@ -6,25 +6,36 @@ import java.lang.reflect.Method;
 import java.lang.reflect.Modifier;
 import java.nio.file.Files;
 import java.nio.file.Path;
+import java.util.ArrayList;
 import java.util.Arrays;
 import java.util.HashSet;
 import java.util.List;
 import java.util.Set;
 import java.util.TreeSet;
+import java.util.regex.Matcher;
+import java.util.regex.Pattern;
 
 /** The members of the class are those of the document, and a call throws only what it may throw. */
 public final class FaceTest {
     private static final String SOURCE = "src/main/java/CandleLoom.java";
     private static final String DOCUMENT = "../shared/DOC.md";
+    private static final Set<String> IMPORTS = Set.of("java.util.NoSuchElementException", "java.util.ArrayList",
+            "java.util.List", "java.util.Arrays", "java.util.Iterator");
+    private static final Set<String> MACHINE = Set.of("ArrayIndexOutOfBoundsException", "NullPointerException",
+            "ClassCastException", "NegativeArraySizeException", "ArrayStoreException", "RuntimeException",
+            "Exception", "Throwable");
     private static final int[] WILD = {Integer.MIN_VALUE, -65536, -17, -1, 0, 1, 2, 7, 8, 10, 15, 16, 31, 32, 39,
             40, 41, 63, 64, 99, 100, 65535, 65536, Integer.MAX_VALUE - 1, Integer.MAX_VALUE};
     private static final char[] SIGNS = {'l', 'r', 'L', 0, ' ', ';', '0', 'w', 255, 256, 0xffff};
 
     public static void main(String[] args) throws Exception {
+        Check.watch();
         membersAreThoseOfTheDocument();
         nestedClassesAreHidden();
         privateNamesDiffer();
         wordsOutsideTheLanguage();
+        catchesOfTheMachine();
+        sizes();
         wildCalls();
         Check.end();
     }
@@ -88,15 +99,47 @@ public final class FaceTest {
         }
     }
 
+    private static String code() throws IOException {
+        return Files.readString(Path.of(SOURCE)).replaceAll("(?s)/\\*.*?\\*/|//[^\n]*", "");
+    }
+
     private static void wordsOutsideTheLanguage() throws IOException {
-        String source = Files.readString(Path.of(SOURCE)).replaceAll("(?s)/\\*.*?\\*/|//[^\n]*", "");
-        List<String> words = List.of("\\btry\\b", "\\bcatch\\b", "\\bfinally\\b", "\\bsynchronized\\b",
-                "\\bassert\\b", "\\binstanceof\\b", "->", "::", "\\bSystem\\.(?!arraycopy)", "\\bRandom\\b",
-                "\\bThread\\b", "Exact\\b", "\\bhashCode\\b", "\\btoString\\b", "\\bpackage\\b", "\\bprotected\\b");
+        String code = code().replaceAll("(case [^;{}]*?|default) ->", "$1:");
+        List<String> words = List.of("\\bfinally\\b", "\\bsynchronized\\b", "\\bassert\\b", "->", "::",
+                "\\bSystem\\.(?!arraycopy)", "\\bRandom\\b", "\\bThread\\b", "Exact\\b", "\\bhashCode\\b",
+                "\\bString toString\\b", "\\bgetMessage\\b", "\\bpackage\\b", "\\bprotected\\b");
         for (String word : words) {
-            Check.no("found " + word, java.util.regex.Pattern.compile(word).matcher(source).find());
+            Check.no("found " + word, Pattern.compile(word).matcher(code).find());
         }
-        Check.same("imports", 1, source.split("\\bimport ", -1).length - 1);
+        Matcher imports = Pattern.compile("\\bimport ([^;]+);").matcher(code);
+        while (imports.find()) {
+            Check.yes("import " + imports.group(1), IMPORTS.contains(imports.group(1)));
+        }
+    }
+
+    /** No call is answered by catching what the machine throws. */
+    private static void catchesOfTheMachine() throws IOException {
+        Matcher catches = Pattern.compile("\\bcatch\\s*\\(([^)]*)\\)").matcher(code());
+        while (catches.find()) {
+            for (String name : catches.group(1).replace("final ", "").split("[ |]+")) {
+                Check.no("caught: " + name, MACHINE.contains(name));
+            }
+        }
+    }
+
+    private static void sizes() {
+        Class<?>[] inner = CandleLoom.class.getDeclaredClasses();
+        Check.yes("classes: " + inner.length, inner.length <= 11);
+        List<Class<?>> all = new ArrayList<>(List.of(inner));
+        all.add(CandleLoom.class);
+        for (Class<?> one : all) {
+            long fields = Arrays.stream(one.getDeclaredFields())
+                    .filter(field -> !Modifier.isStatic(field.getModifiers())).count();
+            Check.yes("fields of " + one + ": " + fields, fields <= 20);
+            for (Method method : one.getDeclaredMethods()) {
+                Check.yes("parameters of " + method, method.getParameterCount() <= 7);
+            }
+        }
     }
 
     private static final class Wild {
@@ -143,11 +186,12 @@ public final class FaceTest {
         }
     }
 
-    /** What the machine throws is told from what the class throws by the class that threw. */
+    /** The machine throws other classes, or throws from the library's own classes, or at a division. */
     private static void checkThrown(Method method, Object[] given, Throwable thrown) {
         String what = method.getName() + Arrays.toString(given) + " threw " + thrown;
         Check.yes(what, Arrays.asList(method.getExceptionTypes()).contains(thrown.getClass()));
-        String thrower = thrown.getStackTrace()[0].getMethodName();
-        Check.yes(what + " in " + thrower, thrower.startsWith("require") || thrower.equals("throwDenial"));
+        StackTraceElement[] trace = thrown.getStackTrace();
+        Check.yes(what + " not by itself", trace.length > 0 && trace[0].getClassName().startsWith("CandleLoom"));
+        Check.no(what + " at a division", "/ by zero".equals(thrown.getMessage()));
     }
 }

@@ -1,6 +1,7 @@
 /** Promises 30 to 36: patterns; and 37 to 40: statistics. */
 public final class PatternsTest {
     public static void main(String[] args) {
+        Check.watch();
         empty();
         period(1, 2);
         period(1, 2, 2, 2);

@@ -1,6 +1,7 @@
 /** Each sentence of the document has a test of its own, and holds. */
 public final class SentencesTest {
     public static void main(String[] args) {
+        Check.watch();
         TermsSentences.all();
         GrammarSentences.all();
         ExceptionsSentences.all();

@@ -60,21 +60,33 @@ final class TextsSentences extends Sentences {
         });
     }
 
+    private static CandleLoom executed() {
+        CandleLoom loom = new CandleLoom();
+        is(5, Check.execute(loom, "wick 3 32769 30;light 0;weave 7;mend r;knot 6 1"));
+        return loom;
+    }
+
+    private static void none(CandleLoom loom, String text, int command, int cause) {
+        String before = Picture.of(loom);
+        Check.failsAt(loom, text, command, cause);
+        is(before, Picture.of(loom));
+    }
+
     private static void execute() {
         sentence(42, "Parses the text buffer and executes its commands in their order, either all of them or "
                 + "none.", () -> {
-            CandleLoom loom = new CandleLoom();
-            Check.execute(loom, "wick 3 32769 30;light 0;weave 7;mend r;knot 6 1");
+            CandleLoom loom = executed();
             is(7, loom.rowCount());
             is(1, loom.burn('l'));
             is(0, loom.burn('r'));
             is(0, loom.heat('r'));
             yes(loom.isKnotted(6, 1));
-            String before = Picture.of(loom);
-            Check.failsAt(loom, "untie 6 1;ravel 3;mend l;wax 0 9;snuff 0;wick 1 2 3;mend l", 6, 5);
-            is(before, Picture.of(loom));
-            Check.failsAt(loom, "weave 9;repeat 4 4;weave 9;snuff 0", 2, 1);
-            is(before, Picture.of(loom));
+            none(executed(), "untie 6 1;ravel 3;mend l;wax 0 9;snuff 0;wick 1 2 3;mend l", 6, 5);
+            none(executed(), "weave 9;repeat 4 4;weave 9;snuff 0", 2, 1);
+            // Other rows would take the place of the last ones.
+            CandleLoom two = executed();
+            two.light(two.addWick(6, 96, 99));
+            none(two, "untie 6 1;ravel 5;snuff 0;weave 5;knot 2 2;weave 1;ravel 0", 6, 8);
         });
         sentence(42, "The buffer is empty afterwards, even if an exception is thrown.", () -> {
             CandleLoom loom = wicks(1);
@@ -186,7 +198,9 @@ final class TextsSentences extends Sentences {
             loom.writeRow(5);
             is("7:oXo...........Xo", Check.line(loom, 18));
             loom.writeRow(4);
+            loom.knot(4, 3);
             is("7:xx............xx", Check.line(loom, 18));
+            loom.untie(4, 3);
             loom.writeWicks();
             is("*7=3", Check.line(loom, 4));
             loom.writeRow(4);

@@ -1,6 +1,7 @@
 /** Promises 41 to 46: texts and output lines; and 47 to 49: the latest denial. */
 public final class TextsTest {
     public static void main(String[] args) {
+        Check.watch();
         feed();
         commands();
         numbers();

@@ -133,8 +133,31 @@ final class UndoSentences extends Sentences {
         is(2, fresh.feed('e'));
     }
 
+    /** A row is undone that stands where another stood before. */
+    private static void rowsComeBack() {
+        CandleLoom loom = Check.lit(1, 12, 40, 6, 80, 30);
+        loom.weave(2);
+        loom.knot(0, 3);
+        loom.ravel(1);
+        loom.snuff(0);
+        loom.weave(1);
+        is(6, loom.rowColour(1));
+        is(80, loom.rowMask(1));
+        loom.knot(1, 5);
+        loom.undo();
+        loom.undo();
+        loom.undo();
+        loom.undo();
+        is(2, loom.rowCount());
+        is(1, loom.rowColour(1));
+        is(92, loom.rowMask(1));
+        yes(loom.isKnotted(0, 3));
+        no(loom.isKnotted(1, 5));
+    }
+
     private static void undo() {
         sentence(50, "Undoes the latest change that can be undone.", () -> {
+            rowsComeBack();
             CandleLoom loom = rich();
             loom.undo();
             no(loom.isKnotted(0, 4));
@@ -209,8 +232,40 @@ final class UndoSentences extends Sentences {
         });
     }
 
+    /** Wicks and rows are restored that stand where others have come to stand since. */
+    private static void allComesBack() {
+        CandleLoom loom = new CandleLoom();
+        loom.addWick(5, 24, 9);
+        loom.light(0);
+        loom.weave(3);
+        loom.knot(1, 2);
+        loom.saveSnapshot();
+        for (int i = 0; i < 4; i++) {
+            loom.undo();
+        }
+        loom.addWick(2, 96, 50);
+        loom.light(0);
+        loom.weave(4);
+        loom.knot(2, 2);
+        is(2, loom.rowColour(0));
+        loom.restoreSnapshot();
+        is(6, loom.wax(0));
+        is(24, loom.nextMask());
+        is(3, loom.rowCount());
+        is(24, loom.rowMask(2));
+        is(5, loom.rowColour(2));
+        yes(loom.isKnotted(1, 2));
+        no(loom.isKnotted(2, 2));
+        loom.weave(1);
+        is(24, loom.rowMask(3));
+        is(5, loom.rowColour(3));
+        is(4, loom.writeWicks());
+        is("*5=5", Check.line(loom, 4));
+    }
+
     private static void saveSnapshot() {
         sentence(52, "Saves a snapshot of everything that changes can change; it replaces an earlier snapshot.", () -> {
+            allComesBack();
             CandleLoom loom = rich();
             loom.saveSnapshot();
             String saved = Picture.of(loom);

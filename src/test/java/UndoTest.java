@@ -1,6 +1,7 @@
 /** Promises 50 to 53. */
 public final class UndoTest {
     public static void main(String[] args) {
+        Check.watch();
         eachChange();
         onlyChanges();
         eightChanges();

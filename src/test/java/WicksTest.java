@@ -1,6 +1,7 @@
 /** Promises 1 to 13. */
 public final class WicksTest {
     public static void main(String[] args) {
+        Check.watch();
         newObject();
         addWick();
         lightAndSnuff();
